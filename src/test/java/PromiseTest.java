@@ -393,9 +393,9 @@ public final class PromiseTest {
         x.next();
         due("8: no stake, no weight", x.weight(4, 2), 0);
         due("8: no weight, no vote", x.vote(2, 4, 0, 0, 1), STATE);
-        due("8: stake again", x.add(2, 5), 5);
+        due("3: the most at once, onto nothing", x.add(2, MOST), MOST);
         x.next();
-        due("8: weight again", x.weight(5, 2), 5);
+        due("8: weight again", x.weight(5, 2), MOST);
     }
 
     private static void accuseOut() {
@@ -749,6 +749,9 @@ public final class PromiseTest {
         due("17: once each, taken or not", x.named(1), 128 + 16);
         x.next();
         due("17: other height", x.named(2), 0);
+        FaultEvidence y = begun(1, 1);
+        y.vote(1, 1, 0, 1, 1);
+        due("17: by the first vote alone", y.named(1), 2);
         due("17: height 0", x.named(0), OUTSIDE);
         due("17: height 3", x.named(3), OUTSIDE);
         for (int far : FAR) {
