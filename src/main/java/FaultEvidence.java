@@ -437,15 +437,20 @@ public final class FaultEvidence {
         return vote != other && vote >> BLOCK_BITS == other >> BLOCK_BITS;
     }
 
-    private boolean isLock(int locking, int later) {
-        if (voterOf(locking) != voterOf(later) || stepOf(locking) != 1 || stepOf(later) != 0) {
+    /** Whether a vote may be the first one of a break of the kind lock, or bare. */
+    private static boolean isLocking(int vote) {
+        return stepOf(vote) == 1 && blockOf(vote) > 0;
+    }
+
+    private boolean isLock(int vote, int later) {
+        if (!isLocking(vote) || voterOf(vote) != voterOf(later) || roundOf(vote) >= roundOf(later)) {
             return false;
         }
         int block = blockOf(later);
-        if (blockOf(locking) == 0 || block == 0 || block == blockOf(locking)) {
+        if (stepOf(later) != 0 || block == 0 || block == blockOf(vote)) {
             return false;
         }
-        return roundOf(locking) < roundOf(later) && !isUnlocked(heightOf(later), block, roundOf(locking), roundOf(later));
+        return !isUnlocked(heightOf(later), block, roundOf(vote), roundOf(later));
     }
 
     private boolean isUnlocked(int height, int block, int from, int before) {
@@ -458,7 +463,7 @@ public final class FaultEvidence {
     }
 
     private boolean isBare(int vote) {
-        return stepOf(vote) == 1 && blockOf(vote) > 0 && !isBacked(heightOf(vote), roundOf(vote), blockOf(vote));
+        return isLocking(vote) && !isBacked(heightOf(vote), roundOf(vote), blockOf(vote));
     }
 
     private boolean isPair(int kind, int vote, int other) {
@@ -473,21 +478,32 @@ public final class FaultEvidence {
         if (isBare(vote)) {
             return true;
         }
+        int voter = voterOf(vote);
         for (int v = 0; v < voteCount; v++) {
-            if (isTwice(vote, votes[v]) || isLock(vote, votes[v]) || isLock(votes[v], vote)) {
+            if (votes[v] >> NODE_SHIFT == voter && isClash(vote, votes[v])) {
                 return true;
             }
         }
         return false;
     }
 
+    private boolean isClash(int vote, int other) {
+        return isTwice(vote, other) || isLock(vote, other) || isLock(other, vote);
+    }
+
     private int countBreaksFrom(int kind, int a) {
+        int vote = votes[a];
         if (kind == BARE) {
-            return isBare(votes[a]) ? 1 : 0;
+            return isBare(vote) ? 1 : 0;
         }
+        if (kind == LOCK && !isLocking(vote)) {
+            return 0;
+        }
+        int voter = voterOf(vote);
         int count = 0;
         for (int b = firstPartner(kind, a); b < voteCount; b++) {
-            if (isPair(kind, votes[a], votes[b])) {
+            // Most votes are another voter's: the shift alone, without calls, passes them by.
+            if (votes[b] >> NODE_SHIFT == voter && isPair(kind, vote, votes[b])) {
                 count++;
             }
         }
