@@ -218,6 +218,8 @@ public final class PromiseTest {
         due("7: may() has no ROOM", x.may(1, 1, 7, 0, 0), 1);
         due("15: 10 votes of each of 30 slots", x.breaks(1, TWICE), 30 * 45);
         due("17: both", x.named(1), 3);
+        due("16: the last of a full row", x.broken(1, TWICE, 30 * 45 - 1, 1), 299);
+        due("16: none behind a full row", x.broken(1, TWICE, 30 * 45, 0), NONE);
     }
 
     // ---- 7
