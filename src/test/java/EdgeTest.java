@@ -302,6 +302,9 @@ public final class EdgeTest {
         named();
         taken();
         tellingChangesNothing();
+        blameOfOneRound();
+        blameOfTwoRounds();
+        blameOfNone();
         System.out.println(wrong == 0 ? "all " + sentences + " sentences hold" : wrong + " answers are not as due");
         if (wrong != 0) {
             System.exit(1);
@@ -746,6 +749,10 @@ public final class EdgeTest {
         says(8, "NOT: BARE for none, or BACKED by the VOTES so far");
         begun(9, 9).votes(new int[][] {{0, 1, 0, 1, 0}, {0, 1, 1, 1, 1}, {0, 1, 1, 0, 1}, {1, 1, 1, 0, 1}}).forward(2)
             .still(NOT, "accuse", BARE, 0, 0, 1).still(NOT, "accuse", BARE, 1, 0, 1);
+
+        says(8, "NOT: LOCK, the other BLOCK being BACKED by the VOTES so far");
+        begun(10, 1).votes(new int[][] {{1, 1, 0, 1, 1}, {1, 1, 2, 0, 2}}).still(EARLY, "accuse", LOCK, 0, 1, NONE).forward(1)
+            .votes(new int[] {0, 1, 1, 0, 2}).still(NOT, "accuse", LOCK, 0, 1, NONE).forward(1).still(NOT, "accuse", LOCK, 0, 1, NONE);
     }
 
     private static void accuseTimes() {
@@ -1322,5 +1329,98 @@ public final class EdgeTest {
         r.due(50, "accuse", TWICE, 0, 1, 1);
         r.still(1, "about", 3).still(950, "holds", 0, 0).still(1, "said", 3, 0).still(3000, "weight", 1, NONE).still(1000, "backed", 1, 0, 0, 1)
             .still(NONE, "certain", 1, 0).still(1, "breaks", 1, LOCK).still(2, "broken", 1, LOCK, 0, 1).still(1, "named", 1).still(50, "taken", 0, 5);
+    }
+
+    // ---- the first sentence of the document
+
+    /** Votes of these nodes for a block, in a step of a round of height 1. */
+    private static Run all(Run r, int round, int step, int block, int... nodes) {
+        for (int node : nodes) {
+            r.votes(new int[] {node, 1, round, step, block});
+        }
+        return r;
+    }
+
+    /** Two blocks are certain at height 1; just these nodes are named, and they weigh more than a third. */
+    private static void blamed(Run r, int nodes) {
+        r.due(1, "certain", 1, 0).due(2, "certain", 1, 1).due(nodes, "named", 1);
+        long weight = 0;
+        for (int node = 0; node < r.call("about", 1); node++) {
+            weight += (nodes >> node & 1) * r.call("weight", 1, node);
+        }
+        if (3 * weight <= r.call("weight", 1, NONE)) {
+            report("the named ones weigh " + weight + " only");
+        }
+    }
+
+    private static void blameOfOneRound() {
+        says(17, "two BLOCKS CERTAIN in one ROUND: those in both weigh more than a third, by TWICE");
+        Run r = begun(1, 1, 1, 1);
+        all(r, 0, 0, 1, 0, 1, 2);
+        all(r, 0, 0, 2, 1, 2, 3);
+        all(r, 0, 1, 1, 0, 1, 2);
+        all(r, 0, 1, 2, 1, 2, 3);
+        r.due(4, "breaks", 1, TWICE).due(0, "breaks", 1, LOCK).due(0, "breaks", 1, BARE);
+        blamed(r, 2 + 4);
+
+        says(17, "just a little more than a third: 334 of 1000");
+        r = begun(333, 334, 333);
+        all(r, 5, 0, 1, 0, 1);
+        all(r, 5, 0, 2, 1, 2);
+        all(r, 5, 1, 1, 0, 1);
+        all(r, 5, 1, 2, 1, 2);
+        blamed(r, 2);
+    }
+
+    private static void blameOfTwoRounds() {
+        says(17, "two BLOCKS CERTAIN in two ROUNDS: by LOCK");
+        Run r = begun(333, 334, 333);
+        all(r, 3, 0, 1, 0, 1);
+        all(r, 3, 1, 1, 0, 1);
+        all(r, 7, 0, 2, 1, 2);
+        all(r, 7, 1, 2, 1, 2);
+        r.due(0, "breaks", 1, TWICE).due(1, "breaks", 1, LOCK).due(0, "breaks", 1, BARE);
+        blamed(r, 2);
+
+        says(17, "the other BLOCK was BACKED in the ROUND of the first one: by TWICE");
+        r = begun(333, 334, 333);
+        all(r, 3, 0, 1, 0, 1);
+        all(r, 3, 1, 1, 0, 1);
+        all(r, 3, 0, 2, 1, 2);
+        all(r, 7, 0, 2, 1, 2);
+        all(r, 7, 1, 2, 1, 2);
+        r.due(1, "breaks", 1, TWICE).due(0, "breaks", 1, LOCK).due(0, "breaks", 1, BARE);
+        blamed(r, 2);
+
+        says(17, "a BLOCK is CERTAIN, but BACKED nowhere: by BARE, all that said it");
+        r = begun(333, 334, 333);
+        all(r, 3, 0, 1, 0, 1);
+        all(r, 3, 1, 1, 0, 1);
+        all(r, 7, 1, 2, 1, 2);
+        r.due(0, "breaks", 1, TWICE).due(0, "breaks", 1, LOCK).due(2, "breaks", 1, BARE);
+        blamed(r, 2 + 4);
+    }
+
+    /** Nodes 0 .. 2 say what they might, in this order; node 3, with less than a third, says all it can before each step. */
+    private static void blameOfNone() {
+        says(17, "a NODE that said nothing but what it might say is never named, whatever another one says");
+        int[][] tries = {{0, 0, 0, 1, 1}, {1, 0, 0, 1, 1}, {2, 0, 0, 2, 1},
+            {0, 0, 1, 2, 0}, {0, 0, 1, 1, 1}, {1, 0, 1, 0, 1}, {2, 0, 1, 0, 1},
+            {0, 1, 0, 2, 0}, {0, 1, 0, 1, 1}, {1, 1, 0, 2, 1}, {2, 1, 0, 2, 1},
+            {0, 1, 1, 1, 0}, {0, 1, 1, 0, 1}, {1, 1, 1, 2, 1}, {2, 1, 1, 2, 1},
+            {1, 2, 0, 1, 0}, {1, 2, 0, 2, 1}, {2, 2, 0, 1, 0}, {2, 2, 0, 2, 1}, {0, 2, 0, 2, 1},
+            {0, 2, 1, 1, 0}, {0, 2, 1, 2, 1}, {1, 2, 1, 2, 1}, {2, 2, 1, 2, 1}};
+        Run r = begun(3, 3, 3, 4);
+        for (int[] t : tries) {
+            for (int block = 0; block < 3; block++) {
+                r.votes(new int[] {3, 1, t[1], t[2], block});
+            }
+            r.due(t[4], "may", t[0], 1, t[1], t[2], t[3]);
+            if (t[4] == 1) {
+                r.votes(new int[] {t[0], 1, t[1], t[2], t[3]});
+            }
+            r.due(8, "named", 1);
+        }
+        r.due(2, "certain", 1, 0).due(NONE, "certain", 1, 1);
     }
 }

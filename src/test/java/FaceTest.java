@@ -5,7 +5,10 @@ import java.lang.reflect.Method;
 import java.lang.reflect.Modifier;
 import java.nio.file.Files;
 import java.nio.file.Path;
+import java.util.LinkedHashSet;
+import java.util.Map;
 import java.util.Set;
+import java.util.TreeMap;
 import java.util.TreeSet;
 import java.util.regex.Matcher;
 import java.util.regex.Pattern;
@@ -37,6 +40,8 @@ public final class FaceTest {
         constants();
         constructors();
         classesInside();
+        staticFields();
+        sizes();
         source();
         System.out.println(wrong == 0 ? "the face is as told" : wrong + " things are not as told");
         if (wrong != 0) {
@@ -96,9 +101,51 @@ public final class FaceTest {
         }
     }
 
+    private static void staticFields() {
+        Set<Class<?>> types = Set.of(int.class, long.class, boolean.class, char.class, String.class,
+            int[].class, long[].class, char[].class, byte[].class);
+        for (Class<?> c : classes()) {
+            for (Field f : c.getDeclaredFields()) {
+                boolean isStatic = Modifier.isStatic(f.getModifiers());
+                hold(!isStatic || Modifier.isFinal(f.getModifiers()) && types.contains(f.getType()), "static field " + f.getName() + " is a constant");
+            }
+        }
+    }
+
+    private static Set<Class<?>> classes() {
+        Set<Class<?>> all = new LinkedHashSet<>(Set.of(FaultEvidence.class.getDeclaredClasses()));
+        all.add(FaultEvidence.class);
+        return all;
+    }
+
+    private static void sizes() {
+        hold(classes().size() <= 12, "at most twelve classes");
+        for (Class<?> c : classes()) {
+            int fields = 0;
+            for (Field f : c.getDeclaredFields()) {
+                fields += Modifier.isStatic(f.getModifiers()) ? 0 : 1;
+            }
+            hold(fields <= 20, c.getName() + " has at most twenty fields");
+            for (Constructor<?> made : c.getDeclaredConstructors()) {
+                hold(made.getParameterCount() <= 7, c.getName() + " is made of at most seven parameters");
+            }
+        }
+    }
+
     private static void source() throws IOException {
         String text = Files.readString(Path.of("src/main/java/FaultEvidence.java"));
         String code = text.replaceAll("(?s)/\\*.*?\\*/", " ").replaceAll("//[^\n]*", " ");
+        words(code);
+        Map<String, String> bodies = bodies(code);
+        hold(bodies.keySet().containsAll(Set.of("vote", "named", "take")), "the methods are found in the source");
+        for (String name : bodies.keySet()) {
+            hold(bodies.get(name).lines().count() <= 60, name + " has at most sixty lines");
+            int depth = depth(name, bodies, 0);
+            hold(depth <= 8, name + " has calls at most eight deep and none of itself");
+        }
+    }
+
+    private static void words(String code) {
         Matcher words = Pattern.compile("\\b(throw|throws|try|catch|synchronized|assert|package|float|double|System|Object|equals|hashCode|toString|[a-z]\\w*Exact)\\b|->|::").matcher(code);
         while (words.find()) {
             hold(false, "the source is without " + words.group());
@@ -107,5 +154,30 @@ public final class FaceTest {
         while (imports.find()) {
             hold(Set.of("java.util.ArrayList", "java.util.List", "java.util.Arrays").contains(imports.group(1)), "import " + imports.group(1));
         }
+        hold(!Pattern.compile("\\bstatic\\s*\\{").matcher(code).find(), "no static initialiser");
+    }
+
+    /** The methods of the outer class by name, each up to the brace that stands as far in as its first line. */
+    private static Map<String, String> bodies(String code) {
+        Map<String, String> all = new TreeMap<>();
+        Matcher heads = Pattern.compile("(?ms)^    (?:public|private) (?:static )?\\w+ (\\w+)\\([^)]*\\) \\{\\n(.*?)^    \\}").matcher(code);
+        while (heads.find()) {
+            hold(all.put(heads.group(1), heads.group(2)) == null, "one method is called " + heads.group(1));
+        }
+        return all;
+    }
+
+    private static int depth(String name, Map<String, String> bodies, int above) {
+        if (above > 20) {
+            return above;
+        }
+        int deepest = 1;
+        Matcher calls = Pattern.compile("(?<![.\\w])(\\w+)\\(").matcher(bodies.get(name));
+        while (calls.find()) {
+            if (bodies.containsKey(calls.group(1))) {
+                deepest = Math.max(deepest, 1 + depth(calls.group(1), bodies, above + 1));
+            }
+        }
+        return deepest;
     }
 }

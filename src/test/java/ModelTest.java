@@ -2,13 +2,16 @@ import java.util.ArrayList;
 import java.util.List;
 import java.util.Random;
 import java.util.TreeSet;
+import java.util.function.ToLongFunction;
 
 /**
  * Random runs with fixed seeds, each answer beside that of a second, plain reading of the document which keeps
  * nothing but what came and works everything out anew.
  */
 public final class ModelTest {
-    private static final int RUNS = 500, CALLS = 512;
+    private static final int RUNS = 500;
+    /** An object has at most 512 calls; those that may change it are fewer, so that some are left for questions. */
+    private static final int CALLS = 512, CHANGES = 430;
     private static final int NONE = -1, UNKNOWN = -101, OUTSIDE = -102, STATE = -103, ROOM = -104;
     private static final int NOT = -105, EARLY = -106, LATE = -107, DONE = -108;
 
@@ -272,8 +275,10 @@ public final class ModelTest {
         final int seed;
         final Random random;
         final Model model = new Model();
-        final FaultEvidence x = new FaultEvidence();
-        final int nodes, rounds, blocks, oddOneIn, nextOneIn;
+        final List<ToLongFunction<FaultEvidence>> changes = new ArrayList<>();
+        FaultEvidence object = new FaultEvidence();
+        int used = 0;
+        final int nodes, rounds, blocks, oddOneIn, nextOneIn, votesInHundred;
         final boolean honest;
         /** The votes that may() had answered 0 to, by height and node. */
         final boolean[][] strayed = new boolean[41][8];
@@ -287,6 +292,26 @@ public final class ModelTest {
             oddOneIn = seed % 3 == 0 ? 4 : 40;
             nextOneIn = 10 + random.nextInt(seed % 2 == 0 ? 20 : 300);
             honest = seed % 5 == 0;
+            votesInHundred = seed % 7 == 0 ? 75 : 60;
+        }
+
+        /** The object, for one more call; when its calls are used up, a new one that had the same changes. */
+        FaultEvidence x() {
+            if (used == CALLS) {
+                object = new FaultEvidence();
+                for (ToLongFunction<FaultEvidence> change : changes) {
+                    change.applyAsLong(object);
+                }
+                used = changes.size();
+            }
+            used++;
+            return object;
+        }
+
+        long change(ToLongFunction<FaultEvidence> call) {
+            long answer = call.applyAsLong(x());
+            changes.add(call);
+            return answer;
         }
 
         int pick(int from, int to) {
@@ -335,26 +360,34 @@ public final class ModelTest {
         void begin() {
             for (int i = 0; i < nodes; i++) {
                 long stake = random.nextInt(3) == 0 ? 1 + random.nextInt(4) : pickLong(1, seed % 4 == 0 ? 1000000000 : 2000);
-                due("node", x.node(stake), model.node(stake));
+                due("node", change(x -> x.node(stake)), model.node(stake));
             }
-            due("next", x.next(), model.next());
+            due("next", change(FaultEvidence::next), model.next());
         }
 
         void callVote(Vote v) {
             long allowed = model.may(v);
-            due("may" + v, x.may(v.node, v.height, v.round, v.step, v.block), allowed);
+            due("may" + v, x().may(v.node, v.height, v.round, v.step, v.block), allowed);
             if (honest && v.node > 0 && allowed == 0) {
                 return;
             }
             long number = model.vote(v);
-            due("vote" + v, x.vote(v.node, v.height, v.round, v.step, v.block), number);
+            due("vote" + v, change(x -> x.vote(v.node, v.height, v.round, v.step, v.block)), number);
             if (number >= 0 && allowed == 0) {
                 strayed[v.height][v.node] = true;
             }
         }
 
         void callAccuse() {
-            int kind = pick(0, 2), a = pickVote(), b = pickVote();
+            int kind = pick(0, 2);
+            Pair pair = drawPair(kind);
+            int a = pair.a, b = pair.b, by = pickBy();
+            due("accuse(" + kind + ", " + a + ", " + b + ", " + by + ")", change(x -> x.accuse(kind, a, b, by)), model.accuse(kind, a, b, by));
+        }
+
+        /** Mostly a break that there is, so that many are taken. */
+        Pair drawPair(int kind) {
+            int a = pickVote(), b = pickVote();
             if (random.nextInt(4) > 0 && Model.in(kind, 0, 2) && model.height > 0) {
                 int h = pick(Math.max(1, model.height - 12), model.height);
                 List<Pair> found = model.allBreaks(h, kind);
@@ -365,49 +398,48 @@ public final class ModelTest {
                     b = kind == 2 && random.nextBoolean() ? random.nextInt() : turn ? p.a : p.b;
                 }
             }
-            int by = pickBy();
-            due("accuse(" + kind + ", " + a + ", " + b + ", " + by + ")", x.accuse(kind, a, b, by), model.accuse(kind, a, b, by));
+            return new Pair(a, b);
         }
 
         void callSet() {
             int what = pick(0, 4);
             long v = what == 3 ? pickLong(2, 20) : what == 4 ? pickLong(0, 1500) : pickLong(0, 1000);
-            due("set(" + what + ", " + v + ")", x.set(what, v), model.set(what, v));
+            due("set(" + what + ", " + v + ")", change(x -> x.set(what, v)), model.set(what, v));
         }
 
         void callAsk() {
             int h = pickHeight(), k = pick(0, 2), i = pick(0, 4), what = pick(0, 6), node = pickBy();
             int round = pick(0, rounds - 1), step = pick(0, 1), block = pick(0, blocks), v = pickVote();
             switch (random.nextInt(10)) {
-                case 0: due("about " + what, x.about(what + 3), model.about(what + 3)); break;
-                case 1: due("holds", x.holds(node, i), model.holds(node, i)); break;
-                case 2: due("said", x.said(v, i), model.said(v, i)); break;
-                case 3: due("weight", x.weight(h, node), model.weight(h, node)); break;
-                case 4: due("backed", x.backed(h, round, step, block), model.backed(h, round, step, block)); break;
-                case 5: due("certain", x.certain(h, i), model.certain(h, i)); break;
-                case 6: due("breaks", x.breaks(h, k), model.breaks(h, k)); break;
-                case 7: due("broken", x.broken(h, k, i, step), model.broken(h, k, i, step)); break;
-                case 8: due("named", x.named(h), model.named(h)); break;
-                default: due("taken", x.taken(i, what), model.taken(i, what)); break;
+                case 0: due("about " + what, x().about(what + 3), model.about(what + 3)); break;
+                case 1: due("holds", x().holds(node, i), model.holds(node, i)); break;
+                case 2: due("said", x().said(v, i), model.said(v, i)); break;
+                case 3: due("weight", x().weight(h, node), model.weight(h, node)); break;
+                case 4: due("backed", x().backed(h, round, step, block), model.backed(h, round, step, block)); break;
+                case 5: due("certain", x().certain(h, i), model.certain(h, i)); break;
+                case 6: due("breaks", x().breaks(h, k), model.breaks(h, k)); break;
+                case 7: due("broken", x().broken(h, k, i, step), model.broken(h, k, i, step)); break;
+                case 8: due("named", x().named(h), model.named(h)); break;
+                default: due("taken", x().taken(i, what), model.taken(i, what)); break;
             }
         }
 
         void callOne() {
             int draw = random.nextInt(100);
             if (random.nextInt(nextOneIn) == 0) {
-                due("next", x.next(), model.next());
-            } else if (draw < 60) {
+                due("next", change(FaultEvidence::next), model.next());
+            } else if (draw < votesInHundred) {
                 callVote(drawVote());
-            } else if (draw < 75) {
+            } else if (draw < votesInHundred + 15) {
                 callAccuse();
-            } else if (draw < 77) {
+            } else if (draw < votesInHundred + 17) {
                 long stake = pickLong(1, 3000);
-                due("node", x.node(stake), model.node(stake));
-            } else if (draw < 79) {
+                due("node", change(x -> x.node(stake)), model.node(stake));
+            } else if (draw < votesInHundred + 19) {
                 int node = pickNode();
                 long more = pickLong(1, 3000);
-                due("add", x.add(node, more), model.add(node, more));
-            } else if (draw < 80) {
+                due("add", change(x -> x.add(node, more)), model.add(node, more));
+            } else if (draw < votesInHundred + 20) {
                 callSet();
             } else {
                 callAsk();
@@ -416,29 +448,29 @@ public final class ModelTest {
 
         /** All that the object tells, once more at the end. */
         void tellAll() {
-            for (int what = -1; what <= 10; what++) due("about", x.about(what), model.about(what));
+            for (int what = -1; what <= 10; what++) due("about", x().about(what), model.about(what));
             for (int n = -1; n <= 8; n++) {
-                for (int what = 0; what < 4; what++) due("holds", x.holds(n, what), model.holds(n, what));
+                for (int what = 0; what < 4; what++) due("holds", x().holds(n, what), model.holds(n, what));
             }
             for (int v = 0; v <= model.votes.size(); v++) {
-                for (int what = 0; what < 5; what++) due("said", x.said(v, what), model.said(v, what));
+                for (int what = 0; what < 5; what++) due("said", x().said(v, what), model.said(v, what));
             }
             for (int i = 0; i <= model.taken.size(); i++) {
-                for (int what = 0; what < 7; what++) due("taken", x.taken(i, what), model.taken(i, what));
+                for (int what = 0; what < 7; what++) due("taken", x().taken(i, what), model.taken(i, what));
             }
             for (int h = 0; h <= model.height + 1; h++) tellHeight(h);
         }
 
         void tellHeight(int h) {
-            for (int n = -1; n <= 8; n++) due("weight", x.weight(h, n), model.weight(h, n));
-            for (int i = -1; i < 10; i++) due("certain", x.certain(h, i), model.certain(h, i));
-            due("named", x.named(h), model.named(h));
+            for (int n = -1; n <= 8; n++) due("weight", x().weight(h, n), model.weight(h, n));
+            for (int i = -1; i < 10; i++) due("certain", x().certain(h, i), model.certain(h, i));
+            due("named", x().named(h), model.named(h));
             for (int kind = 0; kind < 3; kind++) {
-                due("breaks", x.breaks(h, kind), model.breaks(h, kind));
+                due("breaks", x().breaks(h, kind), model.breaks(h, kind));
                 List<Pair> found = h >= 1 && h <= model.height ? model.allBreaks(h, kind) : List.of();
                 for (int i = 0; i < Math.min(40, found.size()); i++) {
-                    due("broken a", x.broken(h, kind, i, 0), found.get(i).a);
-                    due("broken b", x.broken(h, kind, i, 1), found.get(i).b);
+                    due("broken a", x().broken(h, kind, i, 0), found.get(i).a);
+                    due("broken b", x().broken(h, kind, i, 1), found.get(i).b);
                 }
             }
         }
@@ -446,29 +478,29 @@ public final class ModelTest {
         /** What the document's first sentence says of every run. */
         void sayBlame() {
             for (int h = 1; h <= model.height; h++) {
-                int who = x.named(h);
+                int who = x().named(h);
                 long blamed = 0;
                 for (int n = 0; n < model.nodes.size(); n++) {
                     boolean isNamed = (who >> n & 1) == 1;
-                    blamed += isNamed ? x.weight(h, n) : 0;
+                    blamed += isNamed ? x().weight(h, n) : 0;
                     due("node " + n + " is named without a cause", isNamed && !strayed[h][n] ? 1 : 0, 0);
                 }
-                if (x.certain(h, 1) != NONE) {
+                if (x().certain(h, 1) != NONE) {
                     forks++;
-                    due("a third is named", 3 * blamed > x.weight(h, NONE) ? 1 : 0, 1);
+                    due("a third is named", 3 * blamed > x().weight(h, NONE) ? 1 : 0, 1);
                 }
             }
         }
 
         void sayStakes() {
             long paid = 0, burnt = 0;
-            for (int i = 0; i < x.about(3); i++) {
-                paid += x.taken(i, 6);
-                burnt += x.taken(i, 5) - x.taken(i, 6);
+            for (int i = 0; i < x().about(3); i++) {
+                paid += x().taken(i, 6);
+                burnt += x().taken(i, 5) - x().taken(i, 6);
             }
-            for (int n = 0; n < x.about(1); n++) paid -= x.holds(n, 1);
+            for (int n = 0; n < x().about(1); n++) paid -= x().holds(n, 1);
             due("purses", paid, 0);
-            due("burnt", x.about(4), burnt);
+            due("burnt", x().about(4), burnt);
         }
     }
 
@@ -479,7 +511,7 @@ public final class ModelTest {
         for (int seed = 0; seed < RUNS; seed++) {
             Run run = new Run(seed);
             run.begin();
-            for (int call = 0; call < CALLS; call++) {
+            for (int call = 0; call < 600 && run.changes.size() < CHANGES; call++) {
                 run.callOne();
             }
             run.tellAll();
